@@ -140,7 +140,8 @@ public final class CinnamonPeelers {
         }
         int before = thisYear();
         today += days;
-        for (int year = before; year < thisYear(); year++) {
+        int now = thisYear();
+        for (int year = before; year < now; year++) {
             beginYear();
         }
         return accept(today);

@@ -380,6 +380,18 @@ public final class PromisesTest {
         x.set(40, 0);
         taken(x, "four strips", x.join(1), 6);
         partsAre(x, 6, 13, 14, 15, 16);
+        // The shortest and the longest strips.
+        x.set(60, 1);
+        x.cut(1, 0, 1, 1, 1);
+        x.cut(1, 0, 60, 1, 1);
+        x.pass(3);
+        taken(x, "one strip is fewer", x.join(1), 7);
+        partsAre(x, 7, 19);
+        x.cut(1, 0, 60, 1, 1);
+        x.set(59, 2);
+        x.pass(3);
+        taken(x, "1 and 60", x.join(1), 8);
+        partsAre(x, 8, 18, 20);
     }
 
     private static void joinLooksAtThirty() {
@@ -463,6 +475,8 @@ public final class PromisesTest {
         x.join(0);
         taken(x, "twelve again", x.most(0), 11);
         due("nothing more is joined", x.count(3), 1);
+        x.set(52, 2);
+        taken(x, "five would be wanted", x.most(1), 0);
     }
 
     /** Joining the best quill first makes one quill here, though two can be made at once. */
