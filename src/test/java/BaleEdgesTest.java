@@ -571,6 +571,22 @@ public final class BaleEdgesTest {
         r.due(1, "traced", 0, 0, 0);
     }
 
+    static void tracedByTheFirstStripOrTheLast() {
+        for (int strip : new int[] {0, 4}) {
+            Run r = families("22: has a STRIP of a GARDEN", 0);
+            r.make("garden", 0);
+            for (int i = 0; i < 5; i++) {
+                r.make("cut", 0, i == strip ? 1 : 0, 42, 1, 9);
+            }
+            r.make("pass", 3);
+            r.many(5, "join", 0);
+            r.make("bale", 0, 1);
+            r.due(0, "traced", 1, 0, 0);
+            r.due(42, "share", 0, 1);
+            r.due(168, "share", 0, 0);
+        }
+    }
+
     static void tracedByOneStripOfAQuill() {
         Run r = families("22: has a STRIP of a GARDEN", 0);
         r.make("garden", 0);

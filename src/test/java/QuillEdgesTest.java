@@ -111,22 +111,40 @@ public final class QuillEdgesTest {
         }
     }
 
-    static void shortestAndLongestStrips() {
-        Run r = dry("II: LENGTH (1 .. 60); III: LAP (0 .. 9), SPAN (10 .. 99)", 1, 1, 9, 8);
-        r.make("set", 10, 9);
-        r.due(-2, "could", 0);
-        r.make("set", 10, 3);
-        r.taken(0, "join", 0);
-        r.parts(0, 0, 1, 2, 3);
-        r = dry("II: LENGTH (1 .. 60); III: LAP (0 .. 9), SPAN (10 .. 99)", 60, 48, 9, 9);
-        r.make("set", 99, 9);
-        r.due(2, "could", 0);
-        r = dry("II: LENGTH (1 .. 60); III: LAP (0 .. 9), SPAN (10 .. 99)", 60, 30, 20, 16);
-        r.make("set", 99, 9);
-        r.due(4, "could", 0);
-        r.due(1, "most", 0);
-        r.taken(0, "join", 0);
-        r.parts(0, 0, 1, 2, 3);
+    static void shortestStrips() {
+        String sentence = "II: LENGTH (1 .. 60); III: SPAN (10 .. 99)";
+        int[][] lengths = {{9, 1}, {1, 9}, {8, 1, 1}, {1, 1, 8}, {7, 1, 1, 1}, {1, 1, 1, 7}, {1, 7, 1, 1}};
+        for (int[] some : lengths) {
+            Run r = dry(sentence, some);
+            r.make("set", 10, 0);
+            joinedOfAll(r, some.length);
+        }
+    }
+
+    static void longestStrips() {
+        String sentence = "II: LENGTH (1 .. 60); III: SPAN (10 .. 99)";
+        int[][] lengths = {{60}, {60, 39}, {39, 60}, {38, 60, 1}, {1, 38, 60}, {60, 19, 19, 1}, {1, 19, 19, 60}};
+        for (int[] some : lengths) {
+            Run r = dry(sentence, some);
+            r.make("set", some.length == 1 ? 60 : 99, 0);
+            joinedOfAll(r, some.length);
+        }
+    }
+
+    static void greatestLap() {
+        String sentence = "III: LAP (0 .. 9), SPAN (10 .. 99)";
+        int[][] shortSome = {{18, 1}, {1, 18}, {26, 1, 1}, {1, 1, 26}, {34, 1, 1, 1}, {1, 1, 1, 34}, {8, 8, 8, 13}};
+        for (int[] some : shortSome) {
+            Run r = dry(sentence, some);
+            r.make("set", 10, 9);
+            joinedOfAll(r, some.length);
+        }
+        int[][] longSome = {{60, 48}, {48, 60}, {60, 56, 1}, {1, 56, 60}, {60, 30, 20, 16}, {6, 1, 59, 60}};
+        for (int[] some : longSome) {
+            Run r = dry(sentence, some);
+            r.make("set", 99, 9);
+            joinedOfAll(r, some.length);
+        }
     }
 
     // ---- promise 12: the best quill
@@ -429,6 +447,23 @@ public final class QuillEdgesTest {
         r.taken(2, "most", 0);
     }
 
+    static void mostGoesOnBehindAQuillOfTheFirst() {
+        Run r = dry("III: how many can be joined at once", 20, 24, 42);
+        r.taken(2, "most", 0);
+        r = dry("III: how many can be joined at once", 10, 18, 18, 42);
+        r.taken(2, "most", 0);
+        r = dry("III: how many can be joined at once", 20, 42, 24, 42);
+        r.taken(3, "most", 0);
+    }
+
+    static void mostAsOftenAsItIsAsked() {
+        Run r = dry("III: if the STRIPS that may be are 12 at most", 12, 12, 12, 12, 12, 12, 12, 12, 12, 12, 12, 12);
+        for (int i = 0; i < 50; i++) {
+            r.taken(3, "most", 0);
+            r.taken(0, "most", 1);
+        }
+    }
+
     static void mostJoinsNothing() {
         Run r = dry("14: MOST QUILLS of a FAMILY", 42, 42);
         r.taken(2, "most", 0);
@@ -599,6 +634,17 @@ public final class QuillEdgesTest {
     private static void takenAs(Run r, int quill, int... parts) {
         r.taken(quill, "join", 0);
         r.parts(quill, parts);
+    }
+
+    /** All strips go into one quill, and no fewer make one. */
+    private static void joinedOfAll(Run r, int strips) {
+        r.due(strips, "could", 0);
+        r.taken(1, "most", 0);
+        r.taken(0, "join", 0);
+        for (int k = 0; k < strips; k++) {
+            r.due(k, "part", 0, k);
+        }
+        r.due(0, "ready", 0);
     }
 
     /** The grade of a quill of strips with these widths and tastes. */

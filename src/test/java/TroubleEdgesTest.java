@@ -45,6 +45,20 @@ public final class TroubleEdgesTest {
         }
     }
 
+    static void all512Calls() {
+        Run r = new Run("An object is used for at most 512 calls after it has been made");
+        r.make("family", 0);
+        r.make("garden", 0);
+        r.many(200, "cut", 0, 0, 42, 1, 9);
+        r.make("pass", 3);
+        r.many(120, "join", 0);
+        r.many(24, "bale", 0, 1);
+        for (int i = 0; i < 164; i++) {
+            r.due(1, "could", 0);
+        }
+        r.due(4, "count", 5);
+    }
+
     // ---- promise 24
 
     static void troubleOfANewObject() {
