@@ -10,7 +10,8 @@ public final class SourceRulesTest {
         "->", "::", "\\b(try|catch|finally|synchronized|assert|package|native|volatile|transient|protected)\\b",
         "\\bstatic\\s*\\{", "\\b(equals|hashCode|toString|getMessage)\\b", "\\w+Exact\\b",
         "\\b(Random|Thread|System\\.(?!arraycopy)|Object|HashMap|Map|Set|Optional|Stream)\\b",
-        "\\b(double|float|var|instanceof|yield)\\b", "\"\\s*\\+|\\+\\s*\"", "while\\s*\\(\\s*true", "for\\s*\\(\\s*;"};
+        "\\b(double|float|var|instanceof|yield)\\b", "\"\\s*\\+|\\+\\s*\"", "while\\s*\\(\\s*true", "for\\s*\\(\\s*;",
+        "[^\\n -~]", "\\bthrow\\b(?! new NoSuchElementException\\(\"[^\"]*\"\\);)", "\\bstatic (?!final\\b)[\\w<>\\[\\]]+ \\w+( =|;)"};
     private static final int LONGEST_METHOD = 60;
     private static final int MOST_CLASSES = 12;
 

@@ -159,8 +159,13 @@ final class Run {
         System.out.println(sentence + ": " + what);
     }
 
+    /** Whether an answer of Call.on tells that the call threw what the document names. */
+    static boolean isThrown(int answer) {
+        return answer == THROWN;
+    }
+
     private static String told(int answer) {
-        return answer == THROWN ? "throws.NoSuchElementException" : String.valueOf(answer);
+        return isThrown(answer) ? "throws.NoSuchElementException" : String.valueOf(answer);
     }
 
     // ---- all that can be seen of an object, but for TROUBLE
